@@ -10,20 +10,35 @@ final class Check {
     static final int NOTHING = -4;
     static final int STUCK = -5;
     static final int FULL = -6;
-    private static final int FIRST_COUNT = 10;
+    private static final int LANE_COUNT = 10;
+    private static final int SEEN_ELEMENTS = 9;
 
+    private static String heading = "";
     private static int wrong = 0;
     private static int checked = 0;
 
     private Check() {
     }
 
-    static void due(String what, long got, long want) {
+    /** What each line that tells of a wrong answer begins with from now on. */
+    static void heading(String words) {
+        heading = words;
+    }
+
+    static int checked() {
+        return checked;
+    }
+
+    static void must(boolean is, String otherwise) {
         checked++;
-        if (got != want) {
+        if (!is) {
             wrong++;
-            System.out.println(what + " answered " + got + ", due is " + want);
+            System.out.println(heading + otherwise);
         }
+    }
+
+    static void due(String what, long got, long want) {
+        must(got == want, what + " answered " + got + ", due is " + want);
     }
 
     static void finish() {
@@ -96,45 +111,62 @@ final class Check {
         }
     }
 
-    /** All that calls tell of an object; the tape is read and the image brought back for it. */
+    /**
+     * All that calls tell of an object but how many refusals there were: the lane, the shelves, what
+     * the tape reads as, what was kept, and what houses that come later begin with. The object is
+     * spent by it; with what made it, it has to stay within 512 calls.
+     */
     private static List<Long> seen(ReadOutAlongTheWay x) {
         List<Long> all = new ArrayList<>();
         seeLane(x, all);
         for (int s = 0; s < 8; s++) {
             all.add((long) x.holds(s));
-            for (int i = 0; i < 7; i++) {
+            for (int i = 0; i < SEEN_ELEMENTS; i++) {
                 all.add(x.element(s, i));
             }
         }
         all.add((long) x.lane());
-        all.add((long) x.status(2));
+        seeStatus(x, all);
         all.add((long) x.back());
         seeLane(x, all);
+        x.houses(12);
+        seeHouses(x, all);
         return all;
     }
 
     private static void seeLane(ReadOutAlongTheWay x, List<Long> all) {
-        for (int what = 0; what < FIRST_COUNT; what++) {
-            all.add((long) x.status(what));
-        }
-        for (int what = 12; what <= 16; what++) {
-            all.add((long) x.status(what));
-        }
-        int houses = x.status(1);
+        seeStatus(x, all);
+        seeHouses(x, all);
         int letters = x.status(0);
-        for (int k = 0; k < 4 * houses; k++) {
-            all.add((long) x.houseOf(k / 4, k % 4));
-        }
         for (int k = 0; k < 4 * letters; k++) {
             all.add((long) x.letterOf(k / 4, k % 4));
         }
     }
 
-    private static void same(String what, List<Long> is, List<Long> was) {
-        checked++;
-        if (!is.equals(was)) {
-            wrong++;
-            System.out.println(what + " left " + is + ", due is " + was);
+    private static void seeStatus(ReadOutAlongTheWay x, List<Long> all) {
+        for (int what = 0; what < LANE_COUNT; what++) {
+            all.add((long) x.status(what));
+        }
+    }
+
+    private static void seeHouses(ReadOutAlongTheWay x, List<Long> all) {
+        int houses = x.status(1);
+        for (int k = 0; k < 4 * houses; k++) {
+            all.add((long) x.houseOf(k / 4, k % 4));
+        }
+    }
+
+    /** Of two objects all that is seen is the same; both are spent by it. */
+    static void same(String what, ReadOutAlongTheWay is, ReadOutAlongTheWay want) {
+        List<Long> left = seen(is);
+        List<Long> due = seen(want);
+        must(left.equals(due), what + " left " + left + ", due is " + due);
+    }
+
+    /** How many refusals there were is as it was made, but for one more of a number (0: of none). */
+    private static void counted(String what, ReadOutAlongTheWay x, ReadOutAlongTheWay made, int number) {
+        for (int k = -2; k >= -6; k--) {
+            due(what + ", refusals " + k, x.status(10 - k), made.status(10 - k) + (k == number ? 1 : 0));
         }
     }
 
@@ -146,44 +178,27 @@ final class Check {
     static void askedOf(Supplier<ReadOutAlongTheWay> made, String what, ToLongFunction<ReadOutAlongTheWay> call, long want) {
         ReadOutAlongTheWay x = made.get();
         due(what, call.applyAsLong(x), want);
-        same(what, seen(x), seen(made.get()));
+        counted(what, x, made.get(), 0);
+        same(what, x, made.get());
     }
 
     /** The call on a village is refused, and nothing is changed but how many such refusals there were. */
     static void refused(String what, ToLongFunction<ReadOutAlongTheWay> call, int number) {
-        refusedOf(Check::village, what, call, number, number);
+        refusedOf(Check::village, what, call, number);
     }
 
-    static void refusedOf(Supplier<ReadOutAlongTheWay> made, String what, ToLongFunction<ReadOutAlongTheWay> call,
-        long answer, int number) {
+    static void refusedOf(Supplier<ReadOutAlongTheWay> made, String what, ToLongFunction<ReadOutAlongTheWay> call, int number) {
         ReadOutAlongTheWay x = made.get();
-        due(what, call.applyAsLong(x), answer);
-        for (int k = -2; k >= -6; k--) {
-            int was = made.get().status(10 - k);
-            due(what + ", refusals " + k, x.status(10 - k), k == number ? was + 1 : was);
-        }
-        ReadOutAlongTheWay other = made.get();
-        refuseOnce(other, number);
-        same(what, seen(x), seen(other));
+        due(what, call.applyAsLong(x), number);
+        counted(what, x, made.get(), number);
+        same(what, x, made.get());
     }
 
-    /** A plain call of another kind that is refused with the same number, to compare with. */
-    private static void refuseOnce(ReadOutAlongTheWay x, int number) {
-        switch (number) {
-            case BAD:
-                x.cold(-1);
-                break;
-            case OTHER:
-                x.set(3, 0, 0);
-                break;
-            case NOTHING:
-                x.set(5, 0, 0);
-                break;
-            case STUCK:
-                x.back();
-                break;
-            default:
-                x.letter(0, 0, 0, 1);
-        }
+    /** The call is not refused, whatever else it answers. */
+    static void allowed(Supplier<ReadOutAlongTheWay> made, String what, ToLongFunction<ReadOutAlongTheWay> call) {
+        ReadOutAlongTheWay x = made.get();
+        long got = call.applyAsLong(x);
+        must(got >= ReadOutAlongTheWay.NONE, what + " answered " + got + ", due is no refusal");
+        counted(what, x, made.get(), 0);
     }
 }

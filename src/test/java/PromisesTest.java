@@ -261,9 +261,9 @@ public final class PromisesTest {
         int[][] bad = {{-1, 0, 0, 1}, {6, 0, 0, 1}, {0, -1, 0, 1}, {0, 10, 0, 1}, {0, 0, -1, 1}, {0, 0, 9, 1}, {0, 0, 0, 0}, {0, 0, 0, 41}};
         for (int[] b : bad) {
             Check.refused("10: letter bad", y -> y.letter(b[0], b[1], b[2], b[3]), BAD);
-            Check.refusedOf(PromisesTest::fullVillage, "10: bad ahead of full", y -> y.letter(b[0], b[1], b[2], b[3]), BAD, BAD);
+            Check.refusedOf(PromisesTest::fullVillage, "10: bad ahead of full", y -> y.letter(b[0], b[1], b[2], b[3]), BAD);
         }
-        Check.refusedOf(PromisesTest::fullVillage, "10: full", y -> y.letter(5, 9, 8, 40), FULL, FULL);
+        Check.refusedOf(PromisesTest::fullVillage, "10: full", y -> y.letter(5, 9, 8, 40), FULL);
     }
 
     private static void p11Mend() {
@@ -1324,7 +1324,7 @@ public final class PromisesTest {
         due("64: that of the same number", x.holds(7), 10);
         due("64: gone ones aren't shown again", x.holds(3), NONE);
         Supplier<ReadOutAlongTheWay> noImage = Check::lane;
-        Check.refusedOf(noImage, "64: stuck", y -> y.back(), STUCK, STUCK);
+        Check.refusedOf(noImage, "64: stuck", y -> y.back(), STUCK);
     }
 
     private static void p65Status() {
