@@ -115,6 +115,11 @@ final class KnownBoundaries extends Boundaries {
             windy(x, 0, 11, 0);
             x.letter(0, 0, 11, 40);
             answers(x, REACH, r(1, 0, 12), r(1, 1, 480), r(0, 0, 8), r(0, 1, 72));
+            x.way(true);
+            answers(x, REACH, r(1, 0, 1), r(1, 1, 40), r(0, 0, 5), r(0, 1, 45));
+            ReadOutAlongTheWay y = plain(9);
+            y.way(true);
+            answers(y, REACH, r(0, 0, 1), r(0, 1, 9));
         });
         promise(48, "BAD.", () -> {
             edges(Boundaries::village, REACH, r(0, 0), r(0, 5), r(0, 1));
@@ -180,13 +185,17 @@ final class KnownBoundaries extends Boundaries {
 
     private static void sober() {
         promise(52, "How many HOUSES KNOW a LETTER, if all DRINK is 0.", () -> {
-            ReadOutAlongTheWay x = plain(2);
+            ReadOutAlongTheWay x = plain(1);
             answers(x, SOBER, r(0, 8));
             pouring(x, 0, 7, 9);
             due("as it is", x.whoKnows(0), 1);
             answers(x, SOBER, r(0, 8));
             due("the drink stays", x.houseOf(7, 1), 9);
-            x.cold(6);
+            x.houses(12);
+            pouring(x, 8, 11, 1);
+            x.mend(0, 0, 11);
+            answers(x, SOBER, r(0, 12));
+            x.cold(3);
             answers(x, SOBER, r(0, 0));
             asked(Boundaries::village, SOBER, r(0, 5), r(5, 1));
         });
@@ -215,6 +224,11 @@ final class KnownBoundaries extends Boundaries {
             x.way(true);
             answers(x, THIRST, r(7, 0));
             due("the drink stays", x.houseOf(7, 1), 0);
+            ReadOutAlongTheWay y = plain(5);
+            y.tell(0, 1, 3);
+            answers(y, THIRST, r(1, 6), r(0, 0));
+            y.tell(0, 1, 2);
+            answers(y, THIRST, r(1, 0));
             asked(Boundaries::village, THIRST, r(0, 6), r(8, 0));
         });
         promise(53, "BAD.", () -> edges(Boundaries::village, THIRST, r(0), r(0, 8)));
@@ -264,11 +278,31 @@ final class KnownBoundaries extends Boundaries {
             answers(x, MERRY, r(0, 6));
             due("the drink stays", x.houseOf(6, 1), 9);
             asked(KnownBoundaries::unheard, MERRY, r(0, 0));
+            merryByOneDrop();
         });
         promise(55, "BAD.", () -> {
             edges(Boundaries::village, MERRY, r(0), r(0, 5));
             refused(BAD, Boundaries::fresh, MERRY, r(0));
         });
+    }
+
+    /** 3 that are drunk leave nothing out, 4 do: so it counts that a drink is just 0, not 1 more or less. */
+    private static void merryByOneDrop() {
+        ReadOutAlongTheWay x = plain(1);
+        x.tell(0, 1, 3);
+        x.tell(1, 1, 9);
+        answers(x, MERRY, r(0, 1));
+        x.tell(0, 1, 4);
+        answers(x, MERRY, r(0, 0));
+        x.houses(12);
+        x.mend(0, 0, 11);
+        pouring(x, 0, 9, 0);
+        x.tell(10, 1, 4);
+        answers(x, MERRY, r(0, 10));
+        x.tell(10, 1, 3);
+        x.mend(0, 0, 0);
+        x.way(true);
+        answers(x, MERRY, r(0, 0));
     }
 
     private static void common() {

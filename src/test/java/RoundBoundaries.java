@@ -324,6 +324,14 @@ final class RoundBoundaries extends Boundaries {
             answers(x, BEST, r(0, 1));
             x.letter(5, 0, 7, 1);
             answers(x, BEST, r(0, 7));
+            x.mend(0, 0, 0);
+            x.mend(1, 0, 0);
+            x.way(true);
+            answers(x, BEST, r(0, 0));
+            x.tell(0, 0, 2);
+            answers(x, BEST, r(0, 1));
+            windy(x, 0, 7, 2);
+            answers(x, BEST, r(0, 0));
             asked(RoundBoundaries::unheard, BEST, r(0, 0), r(1, 0), r(2, 0));
         });
         terms("65", "SPENT: all DRINK together.", () -> {
@@ -448,12 +456,17 @@ final class RoundBoundaries extends Boundaries {
             asked(RoundBoundaries::fullest, BEST, r(0, 0), r(1, 320), r(2, 0));
             asked(Boundaries::fresh, BEST, r(0, 0), r(1, 0), r(2, 0));
             ReadOutAlongTheWay x = plain(5);
+            x.tell(1, 0, 1);
+            answers(x, BEST, r(0, 0), r(1, 5), r(2, 1));
+            x.tell(1, 0, 0);
             x.tell(3, 0, 1);
             x.tell(5, 0, 1);
             answers(x, BEST, r(0, 0), r(1, 5), r(2, 3));
             x.letter(5, 0, 6, 1);
             x.tell(7, 0, 2);
             answers(x, BEST, r(0, 6), r(1, 6), r(2, 7));
+            x.way(true);
+            answers(x, BEST, r(0, 7), r(1, 3), r(2, 0));
         });
         promise(28, "BAD.", () -> edges(Boundaries::village, BEST, r(0), r(0, 2)));
     }

@@ -63,6 +63,8 @@ final class SoughtBoundaries extends Boundaries {
             answers(x, ADDRESS, r(0, 128, 3), r(0, 132, 2), r(0, 135, 0), r(0, 7, NONE));
             due("all else as it is", x.letterOf(0, 2), 7);
             asked(SoughtBoundaries::unheard, ADDRESS, r(0, 0, 0), r(0, 1, NONE));
+            x.letter(5, 0, 4, 10);
+            answers(x, ADDRESS, r(1, 0, NONE), r(1, 1, 0), r(1, 128, 7), r(1, 3, NONE));
         });
     }
 
@@ -106,7 +108,12 @@ final class SoughtBoundaries extends Boundaries {
         hushed(x, 0, 2, 1, 0);
         x.tell(0, 1, 4);
         hushed(x, 0, 2, 0, NONE);
+        hushed(x, 0, 0, NONE, NONE);
         due("nothing was poured", x.houseOf(0, 1), 4);
+        x.houses(12);
+        hushed(x, 0, 0, NONE, NONE);
+        x.mend(0, 0, 0);
+        hushed(x, 0, 1, NONE, NONE);
     }
 
     /** Of 19 words 9 may be heard at most, so 10 are left out by 40; of 20 words 11 would be by 44. */
@@ -403,6 +410,8 @@ final class SoughtBoundaries extends Boundaries {
             answers(x, GOSSIPS, r(2));
             x.way(true);
             answers(x, GOSSIPS, r(NONE));
+            x.mend(0, 0, 3);
+            answers(x, GOSSIPS, r(304));
         });
         promise(42, "NONE: no two KNOW one both.", () -> {
             ReadOutAlongTheWay x = fresh();
@@ -464,6 +473,8 @@ final class SoughtBoundaries extends Boundaries {
             answers(x, WIDEST, r(0, 0, 7), r(0, 1, 4));
             due("to stays", x.letterOf(0, 2), 3);
             x.letter(5, 0, 4, 10);
+            answers(x, WIDEST, r(1, 0, 0), r(1, 1, 1));
+            x.way(true);
             answers(x, WIDEST, r(1, 0, 0), r(1, 1, 1));
             asked(SoughtBoundaries::unheard, WIDEST, r(0, 0, 0), r(0, 1, 0));
         });

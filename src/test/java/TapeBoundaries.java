@@ -336,6 +336,10 @@ final class TapeBoundaries extends Boundaries {
             ReadOutAlongTheWay x = village();
             due("fed one by one", x.lane(), 1);
             status(x, 2, 8);
+            Check.feed(x, "letter 0 0 0 1");
+            due("a letter more", x.lane(), 1);
+            due("those shown stay so", x.holds(3), 12);
+            due("rows stay", x.element(0, 5), 6);
         });
         promise(18, "-20 less the FAULT (that is refused, too: BAD).", () -> {
             ReadOutAlongTheWay x = fresh();

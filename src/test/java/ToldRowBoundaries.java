@@ -72,6 +72,7 @@ final class ToldRowBoundaries extends Boundaries {
                 lengths(x, 1, 0, NONE, NONE);
                 told(x, 1L << 32);
                 lengths(x, 1, 0, NONE, NONE);
+                answers(x, FITS, r(0, 1, 0, 0, 0), r(0, 1, 0, 1, 0));
                 x.tell(0, 0, 0);
                 told(x, 1, 1, 1, 1, 1, 1, 1, 1);
                 lengths(x, 8, 1, 1, 1);
@@ -148,7 +149,27 @@ final class ToldRowBoundaries extends Boundaries {
                 told(x, 40);
                 answers(x, ASK, r(0, 1, 0, NONE));
                 due("the length stays", x.letterOf(0, 3), 10);
+                askOfThoseThatFit();
             });
+    }
+
+    /** 1 and 2 fit, which neither house parts, though the second parts more of all lengths. */
+    private static void askOfThoseThatFit() {
+        ReadOutAlongTheWay x = plain(10);
+        x.mend(0, 0, 1);
+        x.tell(0, 0, 9);
+        x.tell(1, 0, 2);
+        told(x, 0, 0);
+        answers(x, ASK, r(0, 0, 0, 1), r(0, 2, 0, 0));
+        x.houses(12);
+        answers(x, ASK, r(0, 0, 0, 1), r(0, 2, 0, 0));
+        ReadOutAlongTheWay y = plain(10);
+        y.mend(0, 0, 0);
+        y.way(true);
+        told(y, 0);
+        answers(y, ASK, r(0, 0, 0, 0));
+        windy(y, 0, 7, 9);
+        answers(y, ASK, r(0, 0, 0, 0));
     }
 
     private static void ofWinds() {
@@ -161,6 +182,8 @@ final class ToldRowBoundaries extends Boundaries {
             told(x, 0);
             answers(x, WINDS, r(0, 1, 0, 0));
             told(x, 11);
+            answers(x, WINDS, r(0, 1, 0, 0));
+            told(x, 10 + (1L << 32));
             answers(x, WINDS, r(0, 1, 0, 0));
             x.mend(0, 1, 5);
             x.letter(1, 0, 7, 10);
