@@ -56,6 +56,21 @@ abstract class Boundaries {
         return x;
     }
 
+    /** One word, and the cold leaves one out: nobody hears anything of it. */
+    static ReadOutAlongTheWay unheard() {
+        ReadOutAlongTheWay x = plain(1);
+        x.cold(3);
+        return x;
+    }
+
+    /** The village with rows of nine ints, all 0, in the first shelf and the last. */
+    static ReadOutAlongTheWay shelved() {
+        ReadOutAlongTheWay x = village();
+        x.row(0, 2, 9);
+        x.row(7, 2, 9);
+        return x;
+    }
+
     /** Each of some houses gets the same wind. */
     static void windy(ReadOutAlongTheWay x, int from, int to, int wind) {
         for (int house = from; house <= to; house++) {

@@ -34,16 +34,10 @@ final class KnownBoundaries extends Boundaries {
         ofKind();
     }
 
-    private static ReadOutAlongTheWay unheard() {
-        ReadOutAlongTheWay x = plain(1);
-        x.cold(3);
-        return x;
-    }
-
     private static void wise() {
         promise(45, "HOUSES (bits) that KNOW every LETTER read there, and to which one is read at least.", () -> {
             asked(Boundaries::fresh, WISE, r(0));
-            asked(KnownBoundaries::unheard, WISE, r(0));
+            asked(Boundaries::unheard, WISE, r(0));
             asked(Boundaries::village, WISE, r(192));
             ReadOutAlongTheWay x = fresh();
             x.letter(0, 0, 0, 10);
@@ -68,7 +62,7 @@ final class KnownBoundaries extends Boundaries {
     private static void secretAndLost() {
         promise(46, "LETTERS (bits) that TO alone KNOWS.", () -> {
             asked(Boundaries::fresh, SECRET, r(0));
-            asked(KnownBoundaries::unheard, SECRET, r(0));
+            asked(Boundaries::unheard, SECRET, r(0));
             ReadOutAlongTheWay x = fresh();
             x.letter(0, 0, 0, 10);
             x.letter(0, 0, 1, 10);
@@ -85,7 +79,7 @@ final class KnownBoundaries extends Boundaries {
         });
         promise(47, "LETTERS (bits) that TO doesn't KNOW.", () -> {
             asked(Boundaries::fresh, LOST, r(0));
-            asked(KnownBoundaries::unheard, LOST, r(1));
+            asked(Boundaries::unheard, LOST, r(1));
             asked(Boundaries::village, LOST, r(0));
             ReadOutAlongTheWay x = fresh();
             for (int k = 0; k < 8; k++) {
@@ -103,7 +97,7 @@ final class KnownBoundaries extends Boundaries {
 
     private static void reach() {
         promise(48, "At how many HOUSES anything of a LETTER is HEARD (what 0), all that's HEARD of it together (1).", () -> {
-            asked(KnownBoundaries::unheard, REACH, r(0, 0, 0), r(0, 1, 0));
+            asked(Boundaries::unheard, REACH, r(0, 0, 0), r(0, 1, 0));
             asked(Boundaries::village, REACH, r(0, 0, 5), r(0, 1, 35), r(5, 0, 1), r(5, 1, 5));
             ReadOutAlongTheWay x = plain(9);
             windy(x, 0, 7, 9);
@@ -177,7 +171,7 @@ final class KnownBoundaries extends Boundaries {
                 answers(x, QUIET, r(7, 0));
             }
             asked(Boundaries::fresh, QUIET, r(0, 0), r(7, 0));
-            asked(KnownBoundaries::unheard, QUIET, r(0, 0));
+            asked(Boundaries::unheard, QUIET, r(0, 0));
         });
         promise(51, "BAD.", () -> edges(Boundaries::village, QUIET, r(0), r(0, 8)));
         promise(51, "(NONE isn't refused.)", () -> asked(Boundaries::village, QUIET, r(0, NONE), r(2, NONE), r(8, 0)));
@@ -277,7 +271,7 @@ final class KnownBoundaries extends Boundaries {
             x.way(true);
             answers(x, MERRY, r(0, 6));
             due("the drink stays", x.houseOf(6, 1), 9);
-            asked(KnownBoundaries::unheard, MERRY, r(0, 0));
+            asked(Boundaries::unheard, MERRY, r(0, 0));
             merryByOneDrop();
         });
         promise(55, "BAD.", () -> {
@@ -308,7 +302,7 @@ final class KnownBoundaries extends Boundaries {
     private static void common() {
         promise(56, "HOUSES (bits) that KNOW two LETTERS both (they may be the same).", () -> {
             asked(Boundaries::village, COMMON, r(0, 1, 43), r(1, 0, 43), r(0, 0, 43), r(5, 5, 4), r(0, 5, 0), r(4, 5, 0));
-            asked(KnownBoundaries::unheard, COMMON, r(0, 0, 0));
+            asked(Boundaries::unheard, COMMON, r(0, 0, 0));
             ReadOutAlongTheWay x = plain(10);
             x.houses(12);
             x.letter(0, 0, 11, 10);
@@ -324,7 +318,7 @@ final class KnownBoundaries extends Boundaries {
 
     private static void doubt() {
         promise(57, "HOUSES (bits) at which a LETTER is read and that don't KNOW it.", () -> {
-            asked(KnownBoundaries::unheard, DOUBT, r(0, 255));
+            asked(Boundaries::unheard, DOUBT, r(0, 255));
             asked(Boundaries::village, DOUBT, r(0, 20), r(3, 0), r(5, 3));
             ReadOutAlongTheWay x = plain(10);
             answers(x, DOUBT, r(0, 0));

@@ -40,13 +40,6 @@ final class RoundBoundaries extends Boundaries {
         return x;
     }
 
-    /** One word, and the cold leaves one out: nothing is heard anywhere. */
-    private static ReadOutAlongTheWay unheard() {
-        ReadOutAlongTheWay x = plain(1);
-        x.cold(3);
-        return x;
-    }
-
     // ---- A ROUND
 
     private static void theWay() {
@@ -291,7 +284,7 @@ final class RoundBoundaries extends Boundaries {
             answers(x, FIRST, r(0, 0, 7));
             x.tell(7, 0, 6);
             answers(x, FIRST, r(0, 0, 6));
-            asked(RoundBoundaries::unheard, FIRST, r(0, 0, NONE), r(0, 1, NONE));
+            asked(Boundaries::unheard, FIRST, r(0, 0, NONE), r(0, 1, NONE));
         });
         terms("26", "LOUDEST of a HOUSE: the LETTER of which most is HEARD, of several the first; NONE: nothing is.", () -> {
             ReadOutAlongTheWay x = plain(5);
@@ -305,14 +298,14 @@ final class RoundBoundaries extends Boundaries {
             x.way(true);
             x.mend(0, 1, 1);
             answers(x, LOUDEST, r(7, 1), r(6, 1), r(5, NONE), r(0, NONE));
-            asked(RoundBoundaries::unheard, LOUDEST, r(0, NONE), r(7, NONE));
+            asked(Boundaries::unheard, LOUDEST, r(0, NONE), r(7, NONE));
         });
     }
 
     private static void ofWords() {
         terms("27", "WORDS of a HOUSE: all that's HEARD there together.", () -> {
             asked(RoundBoundaries::fullest, WORDS, r(0, 320), r(11, 320));
-            asked(RoundBoundaries::unheard, WORDS, r(0, 0), r(7, 0));
+            asked(Boundaries::unheard, WORDS, r(0, 0), r(7, 0));
             ReadOutAlongTheWay x = plain(5);
             x.letter(0, 0, 6, 7);
             answers(x, WORDS, r(0, 12), r(6, 12), r(7, 5));
@@ -332,7 +325,7 @@ final class RoundBoundaries extends Boundaries {
             answers(x, BEST, r(0, 1));
             windy(x, 0, 7, 2);
             answers(x, BEST, r(0, 0));
-            asked(RoundBoundaries::unheard, BEST, r(0, 0), r(1, 0), r(2, 0));
+            asked(Boundaries::unheard, BEST, r(0, 0), r(1, 0), r(2, 0));
         });
         terms("65", "SPENT: all DRINK together.", () -> {
             ReadOutAlongTheWay x = fresh();
@@ -363,7 +356,7 @@ final class RoundBoundaries extends Boundaries {
         promise(20, "BAD.", () -> edges(Boundaries::village, HOUSE_OF, r(0, 0), r(0, 8), r(0, 5)));
         promise(21, "HEARD of a LETTER at a HOUSE.", () -> {
             asked(RoundBoundaries::fullest, HEARD, r(0, 0, 40), r(0, 11, 40), r(7, 0, 40), r(7, 11, 40));
-            asked(RoundBoundaries::unheard, HEARD, r(0, 0, 0), r(0, 7, 0));
+            asked(Boundaries::unheard, HEARD, r(0, 0, 0), r(0, 7, 0));
             asked(Boundaries::village, HEARD, r(0, 5, 7), r(0, 6, 0), r(5, 2, 5), r(5, 8, 0));
         });
         promise(21, "BAD.", () -> {
@@ -372,7 +365,7 @@ final class RoundBoundaries extends Boundaries {
         });
         promise(22, "Whether a LETTER is read at a HOUSE: 1, 0.", () -> {
             asked(Boundaries::village, IS_READ, r(0, 0, 1), r(0, 5, 1), r(0, 6, 0), r(5, 2, 1), r(5, 3, 0), r(5, 8, 0));
-            asked(RoundBoundaries::unheard, IS_READ, r(0, 0, 1), r(0, 7, 1));
+            asked(Boundaries::unheard, IS_READ, r(0, 0, 1), r(0, 7, 1));
         });
         promise(22, "BAD.", () -> {
             edges(Boundaries::village, IS_READ, r(0, 0), r(0, 5), r(0, 8));
@@ -383,7 +376,7 @@ final class RoundBoundaries extends Boundaries {
     private static void seenOfKnowing() {
         promise(23, "WHO KNOWS a LETTER (bits).", () -> {
             asked(RoundBoundaries::fullest, WHO_KNOWS, r(0, 4095), r(7, 4095));
-            asked(RoundBoundaries::unheard, WHO_KNOWS, r(0, 0));
+            asked(Boundaries::unheard, WHO_KNOWS, r(0, 0));
             asked(Boundaries::village, WHO_KNOWS, r(0, 43), r(5, 4));
         });
         promise(23, "BAD.", () -> {

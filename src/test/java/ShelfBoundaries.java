@@ -26,14 +26,6 @@ final class ShelfBoundaries extends Boundaries {
         badSays();
     }
 
-    /** The village with rows of nine ints, all 0, in the first shelf and the last. */
-    private static ReadOutAlongTheWay shelved() {
-        ReadOutAlongTheWay x = village();
-        x.row(0, 2, 9);
-        x.row(7, 2, 9);
-        return x;
-    }
-
     // ---- the Terms
 
     private static void ofShelves() {
@@ -134,12 +126,12 @@ final class ShelfBoundaries extends Boundaries {
             answers(x, ELEMENT, r(0, 0, 9), r(0, 1, 2), r(0, 4, 5), r(0, 5, 9), r(1, 0, 0), r(1, 2, 9));
         });
         promise(3, "BAD SHELF;", () -> {
-            allowed(ShelfBoundaries::shelved, SET, r(0, 0), r(7, 0));
-            refused(BAD, ShelfBoundaries::shelved, SET, r(-1, 0), r(8, 0), r(MIN, 0), r(MAX, 0));
+            allowed(Boundaries::shelved, SET, r(0, 0), r(7, 0));
+            refused(BAD, Boundaries::shelved, SET, r(-1, 0), r(8, 0), r(MIN, 0), r(MAX, 0));
         });
-        promise(3, "OTHER;", () -> refused(OTHER, ShelfBoundaries::shelved, SET, r(3, 0), r(6, 0), r(3, -1), r(3, 40), r(6, MAX)));
+        promise(3, "OTHER;", () -> refused(OTHER, Boundaries::shelved, SET, r(3, 0), r(6, 0), r(3, -1), r(3, 40), r(6, MAX)));
         promise(3, "NOTHING;", () -> {
-            refused(NOTHING, ShelfBoundaries::shelved, SET, r(5, 0), r(5, -1), r(5, 40));
+            refused(NOTHING, Boundaries::shelved, SET, r(5, 0), r(5, -1), r(5, 40));
             refused(NOTHING, Boundaries::fresh, SET, r(0, 0), r(7, 0));
         });
         promise(3, "BAD i.", () -> {
@@ -190,9 +182,9 @@ final class ShelfBoundaries extends Boundaries {
 
     private static void badCopies() {
         promise(4, "BAD SHELVES;", () -> {
-            allowed(ShelfBoundaries::shelved, COPY, r(0, 7, 0, 0, 9), r(7, 0, 0, 0, 9));
-            refused(BAD, ShelfBoundaries::shelved, COPY, r(-1, 0, 0, 0, 0), r(8, 0, 0, 0, 0), r(0, -1, 0, 0, 0), r(0, 8, 0, 0, 0), r(MIN, MAX, 0, 0, 0));
-            refused(BAD, ShelfBoundaries::shelved, COPY, r(3, 8, 0, 0, 0), r(-1, 3, 0, 0, 0), r(5, 8, 0, 0, 0), r(-1, 5, 0, 0, 0));
+            allowed(Boundaries::shelved, COPY, r(0, 7, 0, 0, 9), r(7, 0, 0, 0, 9));
+            refused(BAD, Boundaries::shelved, COPY, r(-1, 0, 0, 0, 0), r(8, 0, 0, 0, 0), r(0, -1, 0, 0, 0), r(0, 8, 0, 0, 0), r(MIN, MAX, 0, 0, 0));
+            refused(BAD, Boundaries::shelved, COPY, r(3, 8, 0, 0, 0), r(-1, 3, 0, 0, 0), r(5, 8, 0, 0, 0), r(-1, 5, 0, 0, 0));
         });
         promise(4, "OTHER (also ROWS of two SORTS, if both hold something);", () -> {
             refused(OTHER, Boundaries::village, COPY, r(3, 0, 0, 0, 0), r(0, 3, 0, 0, 0), r(3, 6, 0, 0, 0), r(3, 3, 0, 0, 0));

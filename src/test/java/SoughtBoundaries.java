@@ -35,13 +35,6 @@ final class SoughtBoundaries extends Boundaries {
         widest();
     }
 
-    /** Nobody knows the one letter: one word, and the cold leaves one out. */
-    private static ReadOutAlongTheWay unheard() {
-        ReadOutAlongTheWay x = plain(1);
-        x.cold(3);
-        return x;
-    }
-
     private static ReadOutAlongTheWay plainTen() {
         return plain(10);
     }
@@ -62,7 +55,7 @@ final class SoughtBoundaries extends Boundaries {
             x.way(true);
             answers(x, ADDRESS, r(0, 128, 3), r(0, 132, 2), r(0, 135, 0), r(0, 7, NONE));
             due("all else as it is", x.letterOf(0, 2), 7);
-            asked(SoughtBoundaries::unheard, ADDRESS, r(0, 0, 0), r(0, 1, NONE));
+            asked(Boundaries::unheard, ADDRESS, r(0, 0, 0), r(0, 1, NONE));
             x.letter(5, 0, 4, 10);
             answers(x, ADDRESS, r(1, 0, NONE), r(1, 1, 0), r(1, 128, 7), r(1, 3, NONE));
         });
@@ -215,7 +208,7 @@ final class SoughtBoundaries extends Boundaries {
                 x.mend(0, 0, 6);
                 answers(x, CHANCE, r(0, 7, 0), r(0, 6, row[1]));
             }
-            asked(SoughtBoundaries::unheard, CHANCE, r(0, 0, 0));
+            asked(Boundaries::unheard, CHANCE, r(0, 0, 0));
         });
         terms("40", "SURE: of all HOUSES at which a LETTER is read but TO, how many would KNOW it, whatever WIND there is.", () -> {
             int[][] byLength = {{1, 0}, {16, 0}, {17, 0}, {18, 7}, {40, 7}};
@@ -243,7 +236,7 @@ final class SoughtBoundaries extends Boundaries {
         promise(29, "ADDRESS of a LETTER for told HOUSES (bits); NONE.", () -> {
             asked(Boundaries::village, ADDRESS, r(0, 43, 5), r(0, 1, 0), r(0, 3, 1), r(0, 4, NONE), r(0, 0, NONE), r(0, 511, NONE), r(5, 1, 0),
                 r(5, 256, 8), r(5, 3, NONE));
-            asked(SoughtBoundaries::unheard, ADDRESS, r(0, 0, 0));
+            asked(Boundaries::unheard, ADDRESS, r(0, 0, 0));
         });
         promise(29, "BAD: also HOUSES that aren't there.", () -> {
             edges(Boundaries::village, ADDRESS, r(0, 0), r(0, 5), r(0, 511));
@@ -271,7 +264,7 @@ final class SoughtBoundaries extends Boundaries {
         });
         promise(30, "(NONE isn't refused.)", () -> {
             asked(SoughtBoundaries::plainTen, HUSH, r(0, 0, 1, NONE), r(0, 1, 0, NONE), r(0, 1, 1, NONE));
-            asked(SoughtBoundaries::unheard, HUSH, r(0, 0, 0, NONE), r(0, 0, 1, NONE));
+            asked(Boundaries::unheard, HUSH, r(0, 0, 0, NONE), r(0, 0, 1, NONE));
         });
     }
 
@@ -360,7 +353,7 @@ final class SoughtBoundaries extends Boundaries {
         });
         promise(40, "SURE.", () -> {
             asked(Boundaries::village, SURE, r(0, 0), r(3, 4), r(5, 0));
-            asked(SoughtBoundaries::unheard, SURE, r(0, 0));
+            asked(Boundaries::unheard, SURE, r(0, 0));
         });
         promise(40, "BAD.", () -> {
             edges(Boundaries::village, SURE, r(0), r(0, 5));
@@ -379,7 +372,7 @@ final class SoughtBoundaries extends Boundaries {
                 x.way(false);
             }
             status(x, 3, 0);
-            asked(SoughtBoundaries::unheard, TURNED, r(0, 0));
+            asked(Boundaries::unheard, TURNED, r(0, 0));
             asked(Boundaries::village, TURNED, r(0, 4), r(1, 2), r(5, 1));
         });
         promise(41, "BAD.", () -> {
@@ -427,7 +420,7 @@ final class SoughtBoundaries extends Boundaries {
         });
         promise(42, "(NONE isn't refused.)", () -> {
             asked(Boundaries::fresh, GOSSIPS, r(NONE));
-            asked(SoughtBoundaries::unheard, GOSSIPS, r(NONE));
+            asked(Boundaries::unheard, GOSSIPS, r(NONE));
         });
     }
 
@@ -476,7 +469,7 @@ final class SoughtBoundaries extends Boundaries {
             answers(x, WIDEST, r(1, 0, 0), r(1, 1, 1));
             x.way(true);
             answers(x, WIDEST, r(1, 0, 0), r(1, 1, 1));
-            asked(SoughtBoundaries::unheard, WIDEST, r(0, 0, 0), r(0, 1, 0));
+            asked(Boundaries::unheard, WIDEST, r(0, 0, 0), r(0, 1, 0));
         });
         promise(44, "BAD.", () -> {
             edges(Boundaries::village, WIDEST, r(0, 0), r(0, 5), r(0, 1));

@@ -24,14 +24,6 @@ final class ToldRowBoundaries extends Boundaries {
         judge();
     }
 
-    /** The village with rows of nine ints, all 0, in the first shelf and the last. */
-    private static ReadOutAlongTheWay shelved() {
-        ReadOutAlongTheWay x = village();
-        x.row(0, 2, 9);
-        x.row(7, 2, 9);
-        return x;
-    }
-
     private static ReadOutAlongTheWay fullShelved() {
         ReadOutAlongTheWay x = fullVillage();
         x.houses(12);
@@ -243,38 +235,38 @@ final class ToldRowBoundaries extends Boundaries {
     private static void lengths() {
         promise(33, "LENGTHS of a LETTER by the first n elements (0 to 12, no more than HOUSES) of the ROW in SHELF s: how many (what 0),"
             + " the least (1; NONE), the greatest (2; NONE).", () -> {
-                asked(ToldRowBoundaries::shelved, LENGTHS, r(0, 0, 0, 0, 40), r(0, 0, 0, 1, 1), r(0, 0, 0, 2, 40));
-                asked(ToldRowBoundaries::shelved, LENGTHS, r(7, 9, 2, 0, 3), r(7, 9, 2, 1, 1), r(7, 9, 2, 2, 3), r(7, 9, 5, 0, 0), r(7, 9, 5, 1, NONE),
+                asked(Boundaries::shelved, LENGTHS, r(0, 0, 0, 0, 40), r(0, 0, 0, 1, 1), r(0, 0, 0, 2, 40));
+                asked(Boundaries::shelved, LENGTHS, r(7, 9, 2, 0, 3), r(7, 9, 2, 1, 1), r(7, 9, 2, 2, 3), r(7, 9, 5, 0, 0), r(7, 9, 5, 1, NONE),
                     r(7, 9, 5, 2, NONE));
                 asked(ToldRowBoundaries::fullShelved, LENGTHS, r(7, 12, 2, 0, 3), r(7, 12, 2, 1, 1), r(7, 12, 2, 2, 3));
             });
         promise(33, "BAD SHELF, n, letter, what;", () -> {
-            edges(ToldRowBoundaries::shelved, LENGTHS, r(0, 0, 0, 0), r(0, 7), r(0, 9), r(0, 5), r(0, 2));
+            edges(Boundaries::shelved, LENGTHS, r(0, 0, 0, 0), r(0, 7), r(0, 9), r(0, 5), r(0, 2));
             edges(ToldRowBoundaries::fullShelved, (x, v) -> x.lengths(0, v[0], v[1], 0), r(0, 0), r(0, 12), r(0, 7));
-            refused(BAD, ToldRowBoundaries::shelved, LENGTHS, r(3, 10, 0, 0), r(3, 0, 6, 0), r(3, 0, 0, 3), r(5, -1, 0, 0), r(5, 0, -1, 0), r(5, 0, 0, -1));
+            refused(BAD, Boundaries::shelved, LENGTHS, r(3, 10, 0, 0), r(3, 0, 6, 0), r(3, 0, 0, 3), r(5, -1, 0, 0), r(5, 0, -1, 0), r(5, 0, 0, -1));
             refused(BAD, Boundaries::fresh, LENGTHS, r(0, 0, 0, 0));
         });
-        promise(33, "OTHER;", () -> refused(OTHER, ToldRowBoundaries::shelved, LENGTHS, r(3, 0, 0, 0), r(6, 9, 5, 2)));
-        promise(33, "NOTHING;", () -> refused(NOTHING, ToldRowBoundaries::shelved, LENGTHS, r(5, 0, 0, 0), r(5, 9, 5, 2)));
+        promise(33, "OTHER;", () -> refused(OTHER, Boundaries::shelved, LENGTHS, r(3, 0, 0, 0), r(6, 9, 5, 2)));
+        promise(33, "NOTHING;", () -> refused(NOTHING, Boundaries::shelved, LENGTHS, r(5, 0, 0, 0), r(5, 9, 5, 2)));
         promise(33, "BAD: fewer elements.", () -> fewer(LENGTHS, 9));
-        promise(33, "(NONE isn't refused.)", () -> asked(ToldRowBoundaries::shelved, LENGTHS, r(0, 3, 5, 1, NONE), r(0, 3, 5, 2, NONE)));
+        promise(33, "(NONE isn't refused.)", () -> asked(Boundaries::shelved, LENGTHS, r(0, 3, 5, 1, NONE), r(0, 3, 5, 2, NONE)));
     }
 
     private static void fits() {
         promise(34, "KINDS (what 0), TOS (1) of a LETTER likewise.", () -> {
-            asked(ToldRowBoundaries::shelved, FITS, r(0, 0, 0, 0, 63), r(0, 0, 0, 1, 511), r(0, 1, 0, 0, 52), r(0, 1, 0, 1, 0));
-            asked(ToldRowBoundaries::shelved, FITS, r(7, 9, 5, 0, 20), r(7, 9, 5, 1, 0), r(7, 2, 5, 1, 508));
+            asked(Boundaries::shelved, FITS, r(0, 0, 0, 0, 63), r(0, 0, 0, 1, 511), r(0, 1, 0, 0, 52), r(0, 1, 0, 1, 0));
+            asked(Boundaries::shelved, FITS, r(7, 9, 5, 0, 20), r(7, 9, 5, 1, 0), r(7, 2, 5, 1, 508));
             asked(ToldRowBoundaries::fullShelved, FITS, r(0, 0, 0, 1, 4095), r(0, 12, 7, 0, 31), r(0, 8, 6, 0, 52), r(0, 12, 6, 0, 0));
         });
         promise(34, "BAD SHELF, n, letter, what;", () -> {
-            edges(ToldRowBoundaries::shelved, FITS, r(0, 0, 0, 0), r(0, 7), r(0, 9), r(0, 5), r(0, 1));
-            edges(ToldRowBoundaries::shelved, FITS, r(0, 0, 0, 1), r(0, 7), r(0, 9), r(0, 5), r(0, 1));
+            edges(Boundaries::shelved, FITS, r(0, 0, 0, 0), r(0, 7), r(0, 9), r(0, 5), r(0, 1));
+            edges(Boundaries::shelved, FITS, r(0, 0, 0, 1), r(0, 7), r(0, 9), r(0, 5), r(0, 1));
             edges(ToldRowBoundaries::fullShelved, (x, v) -> x.fits(0, v[0], v[1], 1), r(0, 0), r(0, 12), r(0, 7));
-            refused(BAD, ToldRowBoundaries::shelved, FITS, r(3, 10, 0, 0), r(3, 0, 6, 0), r(3, 0, 0, 2), r(5, -1, 0, 0), r(5, 0, -1, 0), r(5, 0, 0, -1));
+            refused(BAD, Boundaries::shelved, FITS, r(3, 10, 0, 0), r(3, 0, 6, 0), r(3, 0, 0, 2), r(5, -1, 0, 0), r(5, 0, -1, 0), r(5, 0, 0, -1));
             refused(BAD, Boundaries::fresh, FITS, r(0, 0, 0, 0));
         });
-        promise(34, "OTHER;", () -> refused(OTHER, ToldRowBoundaries::shelved, FITS, r(3, 0, 0, 0), r(6, 9, 5, 1)));
-        promise(34, "NOTHING;", () -> refused(NOTHING, ToldRowBoundaries::shelved, FITS, r(5, 0, 0, 0), r(5, 9, 5, 1)));
+        promise(34, "OTHER;", () -> refused(OTHER, Boundaries::shelved, FITS, r(3, 0, 0, 0), r(6, 9, 5, 1)));
+        promise(34, "NOTHING;", () -> refused(NOTHING, Boundaries::shelved, FITS, r(5, 0, 0, 0), r(5, 9, 5, 1)));
         promise(34, "BAD: fewer elements.", () -> {
             fewer(FITS, 9);
             fewer((x, v) -> x.fits(v[0], v[1], v[2], 1), 9);
@@ -283,24 +275,24 @@ final class ToldRowBoundaries extends Boundaries {
 
     private static void ask() {
         promise(35, "ASK likewise; NONE.", () -> {
-            asked(ToldRowBoundaries::shelved, ASK, r(0, 0, 0, 0), r(0, 0, 2, 6), r(0, 3, 2, 6), r(0, 0, 5, 2), r(0, 2, 5, 2), r(0, 3, 5, NONE));
+            asked(Boundaries::shelved, ASK, r(0, 0, 0, 0), r(0, 0, 2, 6), r(0, 3, 2, 6), r(0, 0, 5, 2), r(0, 2, 5, 2), r(0, 3, 5, NONE));
             asked(ToldRowBoundaries::fullShelved, ASK, r(7, 0, 6, 8), r(7, 8, 6, 8), r(7, 9, 6, NONE), r(7, 12, 6, NONE));
         });
         promise(35, "BAD SHELF, n, letter;", () -> {
-            edges(ToldRowBoundaries::shelved, ASK, r(0, 0, 0), r(0, 7), r(0, 9), r(0, 5));
+            edges(Boundaries::shelved, ASK, r(0, 0, 0), r(0, 7), r(0, 9), r(0, 5));
             edges(ToldRowBoundaries::fullShelved, (x, v) -> x.ask(0, v[0], v[1]), r(0, 0), r(0, 12), r(0, 7));
-            refused(BAD, ToldRowBoundaries::shelved, ASK, r(3, 10, 0), r(3, 0, 6), r(5, -1, 0), r(5, 0, -1));
+            refused(BAD, Boundaries::shelved, ASK, r(3, 10, 0), r(3, 0, 6), r(5, -1, 0), r(5, 0, -1));
             refused(BAD, Boundaries::fresh, ASK, r(0, 0, 0));
         });
-        promise(35, "OTHER;", () -> refused(OTHER, ToldRowBoundaries::shelved, ASK, r(3, 0, 0), r(6, 9, 5)));
-        promise(35, "NOTHING;", () -> refused(NOTHING, ToldRowBoundaries::shelved, ASK, r(5, 0, 0), r(5, 9, 5)));
+        promise(35, "OTHER;", () -> refused(OTHER, Boundaries::shelved, ASK, r(3, 0, 0), r(6, 9, 5)));
+        promise(35, "NOTHING;", () -> refused(NOTHING, Boundaries::shelved, ASK, r(5, 0, 0), r(5, 9, 5)));
         promise(35, "BAD: fewer elements.", () -> fewer(ASK, 9));
-        promise(35, "(NONE isn't refused.)", () -> asked(ToldRowBoundaries::shelved, ASK, r(0, 1, 0, NONE), r(0, 9, 5, NONE)));
+        promise(35, "(NONE isn't refused.)", () -> asked(Boundaries::shelved, ASK, r(0, 1, 0, NONE), r(0, 9, 5, NONE)));
     }
 
     private static void winds() {
         promise(36, "WINDS of a HOUSE by the first n elements (0 to 8, no more than LETTERS) of the ROW in SHELF s.", () -> {
-            asked(ToldRowBoundaries::shelved, WINDS, r(0, 0, 0, 1023), r(0, 1, 0, 512), r(0, 1, 8, 1023), r(7, 6, 8, 1023), r(7, 6, 2, 0));
+            asked(Boundaries::shelved, WINDS, r(0, 0, 0, 1023), r(0, 1, 0, 512), r(0, 1, 8, 1023), r(7, 6, 8, 1023), r(7, 6, 2, 0));
             asked(ToldRowBoundaries::fullShelved, WINDS, r(0, 8, 11, 1023), r(0, 8, 8, 0), r(0, 6, 8, 1023), r(7, 0, 11, 1023));
             Supplier<ReadOutAlongTheWay> noLetters = () -> {
                 ReadOutAlongTheWay x = fresh();
@@ -311,12 +303,12 @@ final class ToldRowBoundaries extends Boundaries {
             refused(BAD, noLetters, WINDS, r(0, 1, 0));
         });
         promise(36, "BAD SHELF, n, house;", () -> {
-            edges(ToldRowBoundaries::shelved, WINDS, r(0, 0, 0), r(0, 7), r(0, 6), r(0, 8));
+            edges(Boundaries::shelved, WINDS, r(0, 0, 0), r(0, 7), r(0, 6), r(0, 8));
             edges(ToldRowBoundaries::fullShelved, WINDS, r(0, 0, 0), r(0, 7), r(0, 8), r(0, 11));
-            refused(BAD, ToldRowBoundaries::shelved, WINDS, r(3, 7, 0), r(3, 0, 9), r(5, -1, 0), r(5, 0, -1));
+            refused(BAD, Boundaries::shelved, WINDS, r(3, 7, 0), r(3, 0, 9), r(5, -1, 0), r(5, 0, -1));
         });
-        promise(36, "OTHER;", () -> refused(OTHER, ToldRowBoundaries::shelved, WINDS, r(3, 0, 0), r(6, 6, 8)));
-        promise(36, "NOTHING;", () -> refused(NOTHING, ToldRowBoundaries::shelved, WINDS, r(5, 0, 0), r(5, 6, 8)));
+        promise(36, "OTHER;", () -> refused(OTHER, Boundaries::shelved, WINDS, r(3, 0, 0), r(6, 6, 8)));
+        promise(36, "NOTHING;", () -> refused(NOTHING, Boundaries::shelved, WINDS, r(5, 0, 0), r(5, 6, 8)));
         promise(36, "BAD: fewer elements.", () -> fewer(WINDS, 6));
     }
 
