@@ -13,6 +13,12 @@ import java.util.regex.Pattern;
 public final class FaceTest {
     private static final Path SOURCE = Path.of("src/main/java/ReadOutAlongTheWay.java");
     private static final Path DOCUMENT = Path.of("../shared/DOC.md");
+    private static final int MOST_CLASSES = 12;
+    private static final int MOST_FIELDS = 20;
+    private static final int MOST_PARAMETERS = 7;
+    private static final int MOST_LINES = 60;
+    /** What the source takes of the library, all of it in rule 4 of LANGUAGE.md. */
+    private static final Set<String> LIBRARY = Set.of("Integer.bitCount", "Math.abs", "Math.max", "System.arraycopy");
     private static int wrong = 0;
 
     private FaceTest() {
@@ -31,6 +37,7 @@ public final class FaceTest {
         methods(due);
         fields();
         innerClasses();
+        sizes();
         source();
         System.out.println(wrong == 0 ? "the face is as due" : wrong + " things of the face are not as due");
         if (wrong != 0) {
@@ -62,7 +69,7 @@ public final class FaceTest {
             } else {
                 must(Modifier.isPrivate(m.getModifiers()), m + " is seen outside");
             }
-            must(m.getParameterCount() <= 7, m + " has too many parameters");
+            must(m.getParameterCount() <= MOST_PARAMETERS, m + " has too many parameters");
         }
         must(found.equals(due), "the methods are " + found + ", due are " + due);
         for (Class<?> inner : ReadOutAlongTheWay.class.getDeclaredClasses()) {
@@ -91,12 +98,50 @@ public final class FaceTest {
         }
     }
 
+    /** Rules 5 and 11 of LANGUAGE.md, for the classes inside as well. */
+    private static void sizes() {
+        Class<?>[] inner = ReadOutAlongTheWay.class.getDeclaredClasses();
+        must(inner.length < MOST_CLASSES, "there are " + inner.length + " classes inside");
+        for (Class<?> each : inner) {
+            int own = 0;
+            for (Field f : each.getDeclaredFields()) {
+                boolean isStatic = Modifier.isStatic(f.getModifiers());
+                must(!isStatic || Modifier.isFinal(f.getModifiers()), f + " is static state");
+                own += isStatic ? 0 : 1;
+            }
+            must(own <= MOST_FIELDS, each + " has " + own + " fields");
+            for (Method m : each.getDeclaredMethods()) {
+                must(m.getParameterCount() <= MOST_PARAMETERS, m + " has too many parameters");
+            }
+            must(each.getDeclaredClasses().length == 0, each + " has classes inside");
+        }
+    }
+
     private static void source() throws IOException {
         String text = Files.readString(SOURCE).replaceAll("(?s)/\\*.*?\\*/", "").replaceAll("//.*", "");
+        Matcher method = Pattern.compile("(?ms)^( {4}| {8})\\S[^\\n]*\\) \\{\\n(.*?)^\\1\\}$").matcher(text);
+        while (method.find()) {
+            long lines = method.group(2).lines().count();
+            must(lines <= MOST_LINES, "a method has " + lines + " lines: " + method.group().lines().findFirst().orElse(""));
+            boolean isConstructor = method.group().startsWith("    public ReadOutAlongTheWay() {");
+            must(isConstructor || !Pattern.compile("\\bnew\\b").matcher(method.group(2)).find(), "an object is made by a call: " + method.group());
+        }
+        for (String library : found("\\b([A-Z][a-z]\\w*\\.\\w+)", text)) {
+            must(LIBRARY.contains(library), "the source has " + library);
+        }
         for (String word : new String[] {"throw", "try", "catch", "synchronized", "assert", "import", "package", "native", "->", "::"}) {
             boolean found = Pattern.compile(word.matches("\\w+") ? "\\b" + word + "\\b" : Pattern.quote(word)).matcher(text).find();
             must(!found, "the source has " + word);
         }
         must(text.chars().allMatch(c -> c < 128), "the source has a sign above 127");
+    }
+
+    private static Set<String> found(String pattern, String text) {
+        Set<String> all = new TreeSet<>();
+        Matcher m = Pattern.compile(pattern).matcher(text);
+        while (m.find()) {
+            all.add(m.group(1));
+        }
+        return all;
     }
 }
